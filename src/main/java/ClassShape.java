@@ -413,7 +413,6 @@ public final class ClassShape {
         private final Reader reader;
         private final int[] kinds = new int[MOST_NUMBERS];
         private final int[] tags = new int[MOST_NUMBERS];
-        private int count;
         int numbersRead;
 
         Pool(Reader reader) {
@@ -422,7 +421,6 @@ public final class ClassShape {
         }
 
         void forget() {
-            count = 0;
             numbersRead = 0;
         }
 
@@ -431,13 +429,13 @@ public final class ClassShape {
             if (!reader.step(2)) {
                 return false;
             }
-            count = file.u2(start);
+            int count = file.u2(start);
             if (count == 0) {
                 return reader.broken(4, start);
             }
             int number = 1;
             while (number < count) {
-                if (!readEntry(number)) {
+                if (!readEntry(number, count)) {
                     return false;
                 }
                 number += kinds[number] == LONG ? 2 : 1;
@@ -446,7 +444,7 @@ public final class ClassShape {
             return true;
         }
 
-        private boolean readEntry(int number) {
+        private boolean readEntry(int number, int count) {
             int tag = reader.next;
             if (!reader.step(1)) {
                 return false;
@@ -464,7 +462,7 @@ public final class ClassShape {
             if (kind == TEXT) {
                 return readLetters(tag);
             }
-            return kind != LONG || takeSecondNumber(number);
+            return kind != LONG || takeSecondNumber(number, count);
         }
 
         private boolean readLetters(int tag) {
@@ -475,7 +473,7 @@ public final class ClassShape {
             return wrong < 0 || reader.broken(6, wrong);
         }
 
-        private boolean takeSecondNumber(int number) {
+        private boolean takeSecondNumber(int number, int count) {
             if (number + 1 >= count) {
                 numbersRead = number;
                 return reader.broken(7, tags[number]);
@@ -503,7 +501,7 @@ public final class ClassShape {
         }
 
         boolean judgeReferences() {
-            for (int number = 1; number < count; number++) {
+            for (int number = 1; number <= numbersRead; number++) {
                 if (!referencesFit(number)) {
                     return reader.broken(8, tags[number]);
                 }
@@ -526,7 +524,7 @@ public final class ClassShape {
         }
 
         boolean judgeTexts() {
-            for (int number = 1; number < count; number++) {
+            for (int number = 1; number <= numbersRead; number++) {
                 int rule = textRule(number);
                 if (rule != 0) {
                     return reader.broken(rule, tags[number]);
@@ -552,7 +550,7 @@ public final class ClassShape {
 
         /** The kind of the entry of a number, NOTHING if the number is none of an entry. */
         int kindOf(int number) {
-            return number >= 1 && number < count ? kinds[number] : NOTHING;
+            return number >= 1 && number <= numbersRead ? kinds[number] : NOTHING;
         }
 
         private int first(int number) {

@@ -221,6 +221,8 @@ public final class CallsTest {
         due("shrink of RULE 28", behind.shrink(), 2);
         due("shrink of RULE 28: judge", behind.judge(), 28);
         due("shrink of RULE 28: place", behind.place(), behind.count(0) - 1);
+        due("shrink of RULE 28: found(28)", behind.found(28), 1);
+        due("shrink of RULE 28: count(1)", behind.count(1), 1);
     }
 
     private static void shrinkOfEveryRight() {

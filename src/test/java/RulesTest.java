@@ -13,8 +13,10 @@ public final class RulesTest {
         classFlags();
         classNumbers();
         fieldHeads();
+        lettersBehind();
         fieldTypes();
         sameFields();
+        manyFields();
         constantValues();
         attributes();
         methodHeads();
@@ -93,6 +95,20 @@ public final class RulesTest {
         checks.tallies("a LONG without second number behind another", Shape.head(4).u1(5).u4(0, 0).u1(5).u4(0, 0), 3);
         checks.judged("a LONG behind another", Shape.head(4).u1(5).u4(0, 0).u1(5).u4(0, 0), 7, 19);
         checks.judged("a pool of 65535", Shape.head(65535).u1(3).u4(0), 1, 15);
+        for (int count : new int[] {131, 132, 65535}) {
+            Shape most = Shape.head(count);
+            for (int i = 0; i < 130; i++) {
+                most.text("");
+            }
+            checks.judged("130 entries of " + count, most, 1, 400);
+            checks.tallies("130 entries of " + count, most, 130);
+        }
+        Shape longs = Shape.head(131);
+        for (int i = 0; i < 43; i++) {
+            longs.u1(5).u4(0, 0);
+        }
+        checks.judged("43 LONGs", longs.text(""), 1, 400);
+        checks.tallies("43 LONGs", longs, 87);
     }
 
     private static void characters() {
@@ -101,7 +117,7 @@ public final class RulesTest {
         for (String text : right) {
             checks.judged("characters of length " + text.length(), Shape.head(2).text(text), 1, 13 + text.length());
         }
-        Object[][] wrong = {{"\0", 0}, {"a\0", 1}, {"\u0080", 0}, {"\u00bf", 0}, {"\u00f0\u0080\u0080\u0080", 0},
+        Object[][] wrong = {{"\0", 0}, {"a\0", 1}, {"\u0080", 0}, {"\u00bf", 0}, {"\u00bf\u0080", 0}, {"\u00f0\u0080\u0080\u0080", 0},
             {"\u00ff", 0}, {"\u00c0", 0}, {"a\u00c0", 1}, {"\u00c0a", 0}, {"\u00c0\u00c0", 0}, {"\u00c0\u007f", 0},
             {"\u00e0\u0080", 0}, {"\u00e0", 0}, {"\u00e0\u0080a", 0}, {"\u00e0a\u0080", 0}, {"ab\u00e0\u00bf\u00c0", 2},
             {"\u00c2\u00a9\u00a9", 2}, {"\u00e0\u0080\u0080\u0080", 3}};
@@ -135,6 +151,8 @@ public final class RulesTest {
         // RULE 8 of all entries comes before RULE 9 of any.
         checks.judged("8 before 9", Shape.head(4).text("a.b").u1(7).u2(1).u1(8).u2(2), 8, 19);
         checks.judged("an entry that comes later", Shape.head(3).u1(7).u2(2).text("a"), 1, 17);
+        checks.judged("the first entry", Shape.head(3).u1(8).u2(1).text("a"), 8, 10);
+        checks.judged("the first entry's name", Shape.head(3).u1(7).u2(2).text("/"), 9, 10);
     }
 
     private static Shape pool6() {
@@ -211,6 +229,7 @@ public final class RulesTest {
             checks.judged("interface " + number, Shape.withPool().u2(0, 2, 2, 2, 2, number), 12, place + 10);
         }
         checks.judged("an interface twice", Shape.withPool().u2(0, 2, 2, 3, 2, 15, 2), 13, place + 12);
+        checks.judged("an interface twice at the end", Shape.withPool().u2(0, 2, 2, 3, 2, 15, 15), 13, place + 12);
         checks.judged("an interface twice at once", Shape.withPool().u2(0, 2, 2, 3, 2, 2, 0), 13, place + 10);
         checks.right("two interfaces", Shape.withPool().u2(0, 2, 2, 2, 2, 15, 0, 0, 0));
         checks.judged("interfaces that are not there", Shape.withPool().u2(0, 2, 2, 2, 2), 1, place + 10);
@@ -243,6 +262,18 @@ public final class RulesTest {
         }
     }
 
+    /** The byte behind a TEXT is not its own: here it is the class's flags, of which each could break the name. */
+    private static void lettersBehind() {
+        Shape name = Shape.head(4).text("A").u1(7).u2(1).text("a").u2(0x2F00, 2, 2, 0, 1, 0, 3);
+        checks.judged("a FIELD NAME before /", name, 1, name.size());
+        Shape member = Shape.head(4).text("A").u1(7).u2(1).text("a").u2(0x3C00, 2, 2, 0, 0, 1, 0, 3);
+        checks.judged("a MEMBER NAME before <", member, 1, member.size());
+        Shape type = Shape.head(5).text("A").u1(7).u2(1).text("a").text("[").u2(0x4900, 2, 2, 0, 1, 0, 3).mark().u2(4);
+        checks.judged("a [ before I", type, 16, type.marked());
+        Shape empty = Shape.head(4).text("A").u1(7).u2(1).text("").u2(0x2800, 2, 2, 0, 0, 1, 0).mark().u2(3);
+        checks.judged("no MEMBER NAME before (", empty, 15, empty.marked());
+    }
+
     /** A class with one field; the mark is its flags. */
     private static Shape fieldOf(String name, String type) {
         return Shape.toFieldWith(5, new Shape().text(name).text(type)).mark().u2(0, 3, 4, 0, 0, 0);
@@ -264,18 +295,39 @@ public final class RulesTest {
     }
 
     private static void sameFields() {
-        Shape entries = new Shape().text("a").text("I").text("a").text("I").text("[[I").text("b");
-        Shape start = Shape.head(9).text("A").u1(7).u2(1).all(entries).u2(0, 2, 2, 0);
+        // The INT between them gives the two TEXTs "I" different bytes behind, and so does the end to two "a".
+        Shape entries = new Shape().text("a").text("I").text("a").text("I").u1(3).u4(0).text("[[I").text("b").text("a");
+        Shape start = Shape.head(11).text("A").u1(7).u2(1).all(entries).u2(0, 2, 2, 0);
         Shape same = new Shape().all(start).u2(2, 0, 3, 4, 0).mark().u2(0, 5, 6, 0, 0, 0);
         checks.judged("the same two TEXTs by their bytes", same, 17, same.marked() + 2);
-        Shape third = new Shape().all(start).u2(3, 0, 3, 4, 0, 0, 8, 4, 0).mark().u2(0, 3, 4);
+        Shape last = new Shape().all(start).u2(2, 0, 3, 4, 0).mark().u2(0, 10, 4, 0, 0, 0);
+        checks.judged("the same name by its bytes", last, 17, last.marked() + 2);
+        Shape third = new Shape().all(start).u2(3, 0, 3, 4, 0, 0, 9, 4, 0).mark().u2(0, 3, 4);
         checks.judged("the same as the first", third, 17, third.marked() + 2);
-        checks.right("another type", new Shape().all(start).u2(2, 0, 3, 4, 0, 0, 5, 7, 0, 0, 0));
-        checks.right("another name", new Shape().all(start).u2(2, 0, 3, 4, 0, 0, 8, 6, 0, 0, 0));
-        Shape brackets = new Shape().all(start).u2(3, 0, 3, 7, 0, 0, 3, 4, 0, 0, 5, 7);
-        checks.tallies("[ of fields before RULE 17", brackets, 8, 2, 0, 0, 0, 0, 2);
-        Shape counted = new Shape().all(start).u2(2, 0, 3, 7, 0, 0, 5, 7);
-        checks.tallies("[ of a field with RULE 17", counted, 8, 1, 0, 0, 0, 0, 2);
+        checks.right("another type", new Shape().all(start).u2(2, 0, 3, 4, 0, 0, 5, 8, 0, 0, 0));
+        checks.right("another name", new Shape().all(start).u2(2, 0, 3, 4, 0, 0, 9, 6, 0, 0, 0));
+        Shape brackets = new Shape().all(start).u2(3, 0, 3, 8, 0, 0, 3, 4, 0, 0, 5, 8);
+        checks.tallies("[ of fields before RULE 17", brackets, 10, 2, 0, 0, 0, 0, 2);
+        Shape counted = new Shape().all(start).u2(2, 0, 3, 8, 0, 0, 5, 8);
+        checks.tallies("[ of a field with RULE 17", counted, 10, 1, 0, 0, 0, 0, 2);
+    }
+
+    private static void manyFields() {
+        // Six names and seven types of one letter are good for 42 fields.
+        Shape shape = Shape.head(14).text("I").u1(7).u2(1);
+        for (String text : new String[] {"J", "S", "B", "C", "Z", "D", "a", "b", "c", "d", "e"}) {
+            shape.text(text);
+        }
+        shape.u2(0, 2, 2, 0, 40);
+        for (int i = 0; i < 39; i++) {
+            shape.u2(0, 3 + i / 6 + 4, 3 + i % 6, 0);
+        }
+        Shape right = copy(shape).u2(0, 3, 1, 0, 0, 0);
+        checks.right("40 fields", right);
+        checks.tallies("40 fields", right, 13, 40);
+        Shape same = copy(shape).mark().u2(0, 3 + 4, 3);
+        checks.judged("the 40th is the first", same, 17, same.marked() + 2);
+        checks.tallies("the 40th is the first", same, 13, 39);
     }
 
     private static Shape constant(int type, int length, int number) {
