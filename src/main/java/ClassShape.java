@@ -961,7 +961,7 @@ public final class ClassShape {
         private boolean readFields() {
             int fields = readNumber();
             for (int i = 0; i < fields; i++) {
-                if (!readFieldHead(i)) {
+                if (!readMemberHead(i, false)) {
                     return false;
                 }
                 int attributes = readNumber();
@@ -978,53 +978,39 @@ public final class ClassShape {
             return fields != NONE;
         }
 
-        private boolean readFieldHead(int i) {
+        /** Reads a field's or method's flags, name and type. */
+        private boolean readMemberHead(int i, boolean isMethod) {
             int head = reader.next;
             if (!reader.step(2)) {
                 return false;
             }
-            if (!fieldFlagsFit(file.u2(head))) {
+            int flags = file.u2(head);
+            if (!(isMethod ? methodFlagsFit(flags) : fieldFlagsFit(flags))) {
                 return reader.broken(14, head);
             }
             if (!reader.step(2)) {
                 return false;
             }
-            if (!pool.isFieldName(file.u2(head + 2))) {
+            int name = file.u2(head + 2);
+            if (!(isMethod ? pool.isMemberName(name) : pool.isFieldName(name))) {
                 return reader.broken(15, head + 2);
             }
             if (!reader.step(2)) {
                 return false;
             }
             int type = file.u2(head + 4);
-            if (!pool.isFieldType(type)) {
+            if (!(isMethod ? pool.isMethodType(type) : pool.isFieldType(type))) {
                 return reader.broken(16, head + 4);
             }
-            int brackets = Names.brackets(file.cells, pool.textStart(type), pool.textEnd(type));
-            tally[BRACKETS] = Math.max(tally[BRACKETS], brackets);
+            if (!isMethod) {
+                countBrackets(type);
+            }
             return addMember(i, head);
         }
 
-        private boolean readMethodHead(int i) {
-            int head = reader.next;
-            if (!reader.step(2)) {
-                return false;
-            }
-            if (!methodFlagsFit(file.u2(head))) {
-                return reader.broken(14, head);
-            }
-            if (!reader.step(2)) {
-                return false;
-            }
-            if (!pool.isMemberName(file.u2(head + 2))) {
-                return reader.broken(15, head + 2);
-            }
-            if (!reader.step(2)) {
-                return false;
-            }
-            if (!pool.isMethodType(file.u2(head + 4))) {
-                return reader.broken(16, head + 4);
-            }
-            return addMember(i, head);
+        private void countBrackets(int type) {
+            int brackets = Names.brackets(file.cells, pool.textStart(type), pool.textEnd(type));
+            tally[BRACKETS] = Math.max(tally[BRACKETS], brackets);
         }
 
         private static boolean fieldFlagsFit(int flags) {
@@ -1087,7 +1073,7 @@ public final class ClassShape {
         private boolean readMethods() {
             int methods = readNumber();
             for (int i = 0; i < methods; i++) {
-                if (!readMethodHead(i)) {
+                if (!readMemberHead(i, true)) {
                     return false;
                 }
                 hasCode = false;
