@@ -1,37 +1,64 @@
 /** Counts the answers that are not the ones due; each test ends with finish. */
-final class Checks {
+class Checks {
+    private String label = "";
     private int wrong;
     private int made;
 
-    void due(String call, long got, long want) {
+    /** What the checks that follow are about; it is printed before a call whose answer is wrong. */
+    final void about(String what) {
+        label = what;
+    }
+
+    final int made() {
+        return made;
+    }
+
+    final void due(String call, long got, long want) {
         made++;
         if (got != want) {
             wrong++;
-            System.out.println(call + " answered " + got + ", due is " + want);
+            System.out.println(label + call + " answered " + got + ", due is " + want);
         }
     }
 
-    void due(String call, boolean holds) {
-        due(call, holds ? 1 : 0, 1);
+    final void due(String what, boolean holds) {
+        made++;
+        if (!holds) {
+            wrong++;
+            System.out.println(label + what + ": does not hold");
+        }
     }
 
     /** The FILE breaks the RULE at the place; rule 0 means that it breaks none. */
-    void judged(String what, Shape shape, int rule, int place) {
+    final void judged(String what, Shape shape, int rule, int place) {
         ClassShape x = shape.load();
-        due(what + ": judge", x.judge(), rule);
-        due(what + ": place", x.place(), rule == 0 ? ClassShape.REFUSED : place);
+        due(what + ": count(0)", x.count(0), shape.size());
+        due(what + ": judge()", x.judge(), rule);
+        due(what + ": place()", x.place(), rule == 0 ? ClassShape.REFUSED : place);
     }
 
-    void right(String what, Shape shape) {
-        judged(what, shape, 0, 0);
+    final void right(String what, Shape shape) {
+        judged(what, shape, 0, ClassShape.REFUSED);
+    }
+
+    /** Nothing in the FILE is wrong but that it ends too early. */
+    final void rightSoFar(String what, Shape shape) {
+        judged(what, shape, 1, shape.size());
     }
 
     /** What the judging of the FILE read, in the order of read's numbers. */
-    void tallies(String what, Shape shape, int... wants) {
+    final void tallies(String what, Shape shape, int... wants) {
         ClassShape x = shape.load();
         x.judge();
         for (int i = 0; i < wants.length; i++) {
             due(what + ": read(" + i + ")", x.read(i), wants[i]);
+        }
+    }
+
+    final void bytes(String what, ClassShape x, int... wants) {
+        due(what + ": count(0)", x.count(0), wants.length);
+        for (int i = 0; i < wants.length; i++) {
+            due(what + ": at(" + i + ")", x.at(i), wants[i]);
         }
     }
 

@@ -1,12 +1,14 @@
 import java.util.ArrayList;
+import java.util.HashMap;
 import java.util.List;
+import java.util.Map;
 
 /** Puts the bytes of a class together; marks tell the places that a test asks for. */
 final class Shape {
     static final int MAGIC = 0xCAFEBABE;
 
     private final List<Integer> bytes = new ArrayList<>();
-    private int mark = -1;
+    private final Map<String, Integer> marks = new HashMap<>();
 
     Shape u1(int... values) {
         for (int value : values) {
@@ -45,13 +47,28 @@ final class Shape {
         return this;
     }
 
-    Shape mark() {
-        mark = bytes.size();
+    Shape copy() {
+        Shape copy = new Shape().all(this);
+        copy.marks.putAll(marks);
+        return copy;
+    }
+
+    /** Keeps the place of what is put next. */
+    Shape mark(String name) {
+        marks.put(name, bytes.size());
         return this;
     }
 
+    int place(String name) {
+        return marks.get(name);
+    }
+
+    Shape mark() {
+        return mark("");
+    }
+
     int marked() {
-        return mark;
+        return place("");
     }
 
     int size() {
@@ -64,6 +81,11 @@ final class Shape {
             copy[i] = (byte) (int) bytes.get(i);
         }
         return copy;
+    }
+
+    Shape with(int place, int value) {
+        bytes.set(place, value & 0xFF);
+        return this;
     }
 
     Shape without(int last) {
@@ -109,11 +131,36 @@ final class Shape {
     static final int CLASS_M = 15;
     static final int COUNT = 16;
 
-    /** A pool with one of each kind. */
+    // The numbers that are a TEXT's.
+    static final List<Integer> TEXTS = List.of(A, M, TO_VOID, CODE, I, CONSTANT_VALUE, J);
+
+    /** A pool with one of each kind; each tag is marked. */
     static Shape withPool() {
-        return head(COUNT).text("A").u1(7).u2(A).text("m").text("()V").text("Code").text("I").u1(3).u4(5)
-            .u1(12).u2(M, TO_VOID).u1(10).u2(CLASS_A, PAIR).u1(8).u2(A).u1(5).u4(0, 9)
-            .text("ConstantValue").text("J").u1(7).u2(M);
+        return head(COUNT).tag(A).text("A").tag(CLASS_A).u1(7).u2(A).tag(M).text("m").tag(TO_VOID).text("()V")
+            .tag(CODE).text("Code").tag(I).text("I").tag(FIVE).u1(3).u4(5).tag(PAIR).u1(12).u2(M, TO_VOID)
+            .tag(METHOD).u1(10).u2(CLASS_A, PAIR).tag(STRING).u1(8).u2(A).tag(LONG).u1(5).u4(0, 9)
+            .tag(CONSTANT_VALUE).text("ConstantValue").tag(J).text("J").tag(CLASS_M).u1(7).u2(M);
+    }
+
+    private Shape tag(int number) {
+        return mark("tag " + number);
+    }
+
+    int tagOf(int number) {
+        return place("tag " + number);
+    }
+
+    /** A right class with something of everything; one other byte is enough to break any of the RULES 2 to 27. */
+    static Shape whole() {
+        return withPool().mark("flags").u2(1).mark("this").u2(CLASS_A, CLASS_A, 2, CLASS_M).mark("interface").u2(CLASS_A)
+            .u2(2).mark("field").u2(0x12, M, I, 2).mark("constant").u2(CONSTANT_VALUE).u4(2).u2(FIVE).u2(A).u4(0)
+            .mark("second field").u2(4, A, I, 0)
+            .u2(2).mark("method").u2(0, M, TO_VOID, 2).mark("code").u2(CODE).u4(33)
+            .u2(1, 2).mark("length").u4(6).mark("load").u1(21, 1).mark("jump").u1(153, 0, 3).mark("return").u1(177)
+            .u2(1).mark("handler").u2(0, 6, 5, CLASS_A).u2(1, A).u4(1).u1(0)
+            .mark("second attribute").u2(M).u4(1).u1(7)
+            .u2(0x400, A, TO_VOID, 0)
+            .u2(1, M).u4(2).u1(1, 2);
     }
 
     /** A class without interfaces up to its number of fields, which is to follow. */
