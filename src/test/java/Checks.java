@@ -1,3 +1,5 @@
+import java.util.HexFormat;
+
 /** Counts the answers that are not the ones due; each test ends with finish. */
 class Checks {
     private String label = "";
@@ -31,10 +33,14 @@ class Checks {
 
     /** The FILE breaks the RULE at the place; rule 0 means that it breaks none. */
     final void judged(String what, Shape shape, int rule, int place) {
+        int wrongBefore = wrong;
         ClassShape x = shape.load();
         due(what + ": count(0)", x.count(0), shape.size());
         due(what + ": judge()", x.judge(), rule);
         due(what + ": place()", x.place(), rule == 0 ? ClassShape.REFUSED : place);
+        if (wrong > wrongBefore) {
+            System.out.println("  the FILE: " + HexFormat.ofDelimiter(" ").formatHex(shape.toBytes()));
+        }
     }
 
     final void right(String what, Shape shape) {
