@@ -101,6 +101,10 @@ final class ClassEdges {
         doc.judged("the third is the first", toInterfaces().u2(3, 2, 15, 2), 13, place + 4);
         doc.judged("the third is the second", toInterfaces().u2(3, 2, 15, 15), 13, place + 4);
         doc.judged("before the next is read", toInterfaces().u2(3, 2, 2, 0), 13, place + 2);
+        ClassShape x = toInterfaces().u2(2, 2, 2).load();
+        x.cut(place + 3, 1);
+        doc.due("the second's last byte cut: judge()", x.judge(), 1);
+        doc.due("the second's last byte cut: place()", x.place(), place + 3);
         doc.right("this and super are not among these", toInterfaces().u2(1, Shape.CLASS_A, 0, 0, 0));
         doc.right("another number of the same name",
             Shape.head(4).text("A").u1(7).u2(1).u1(7).u2(1).u2(0, 2, 2, 2, 2, 3, 0, 0, 0));
@@ -123,22 +127,24 @@ final class ClassEdges {
         manyFields();
     }
 
-    /** Each field has at least eight bytes, so that few more than these have room. */
+    /** Seven TEXTs that are names and types give 49 different fields; a FILE has room for 43 of them. */
     private void manyFields() {
-        Shape shape = Shape.head(14).text("I").u1(7).u2(1);
-        for (String text : new String[] {"J", "S", "B", "C", "Z", "D", "a", "b", "c", "d", "e"}) {
+        Shape shape = Shape.head(9);
+        for (String text : new String[] {"B", "C", "D", "F", "I", "J", "S"}) {
             shape.text(text);
         }
-        shape.u2(0, 2, 2, 0, 40);
-        for (int i = 0; i < 39; i++) {
-            shape.u2(0, 7 + i / 6, 3 + i % 6, 0);
+        shape.u1(7).u2(1).u2(0, 8, 8, 0, 43);
+        for (int i = 0; i < 42; i++) {
+            shape.u2(0, 1 + i / 7, 1 + i % 7, 0);
         }
-        Shape right = shape.copy().u2(0, 3, 1, 0, 0, 0);
-        doc.right("40 fields", right);
-        doc.tallies("40 fields", right, 13, 40);
-        Shape same = shape.copy().mark().u2(0, 7, 3);
-        doc.judged("the 40th is the first", same, 17, same.marked() + 2);
-        doc.tallies("the 40th is the first", same, 13, 39);
+        Shape right = shape.copy().u2(0, 7, 1, 0, 0, 0);
+        doc.right("43 fields", right);
+        doc.tallies("43 fields", right, 8, 43);
+        Shape same = shape.copy().mark().u2(0, 1, 1, 0);
+        doc.judged("the 43rd is the first", same, 17, same.marked() + 2);
+        doc.tallies("the 43rd is the first", same, 8, 42);
+        Shape more = shape.copy().with(shape.size() - 42 * 8 - 1, 44).u2(0, 7, 1, 0, 0, 7).u1(0);
+        doc.judged("a 44th that the FILE has no room for", more, 1, 400);
     }
 
     private void fieldNameAndType() {
@@ -330,6 +336,10 @@ final class ClassEdges {
         Shape second = start.copy().mark().u2(Shape.CODE);
         doc.judged("right behind the first, without a length", second, 19, second.marked());
         doc.tallies("right behind the first", second, 15, 0, 0, 1, 0, 1);
+        ClassShape x = second.load();
+        x.cut(second.size() - 1, 1);
+        doc.due("its name's last byte cut: judge()", x.judge(), 1);
+        doc.due("its name's last byte cut: place()", x.place(), second.size() - 1);
         Shape huge = start.copy().mark().u2(Shape.CODE).u4(-1);
         doc.judged("of a length that is not there", huge, 19, huge.marked());
         Shape third = start.copy().u2(Shape.A).u4(0).mark().u2(Shape.CODE);
@@ -364,6 +374,11 @@ final class ClassEdges {
         doc.right("the length that it has", codeOfLength(code.size(), code));
         for (int length = 0; length < code.size(); length++) {
             doc.judged("its length " + length + " of " + code.size(), codeOfLength(length, code), 20, name);
+        }
+        for (int length = 0; length < 8; length++) {
+            Shape zeros = codeOfLength(length, bytes(new int[length]));
+            doc.judged("no more than " + length + " bytes of 0, up to its U4 length", zeros, 20, name);
+            doc.tallies("no more than " + length + " bytes of 0", zeros, 15, 0, 0, 0, 0, 0);
         }
         doc.judged("a byte more than it has", codeOfLength(code.size() + 1, code.copy().u1(0)), 20, name);
         doc.judged("its bytes are not there", codeOfLength(code.size() + 3, code), 1, codeOfLength(0, code).size());

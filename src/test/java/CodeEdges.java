@@ -304,6 +304,14 @@ final class CodeEdges {
         };
     }
 
+    /** A FILE of 400 bytes that ends with the CODE of these instructions, before the attributes of the class. */
+    private static Shape fullWithCode(Shape instructions) {
+        Shape code = Shape.code(instructions);
+        Shape shape = Shape.toMethods().u2(1, 0, Shape.M, Shape.TO_VOID, 2, Shape.A);
+        int filling = 400 - shape.size() - 4 - 6 - code.size();
+        return shape.u4(filling).u1(new int[filling]).u2(Shape.CODE).u4(code.size()).all(code);
+    }
+
     private void noInstruction() {
         doc.says(TERMS, "Another op, one cut off by the code's end, or low and high not so: RULE 23 (the op's place);");
         for (int op = 0; op < 256; op++) {
@@ -319,6 +327,9 @@ final class CodeEdges {
         // What follows the code would be its operand.
         doc.judged("cut off before its handlers",
             Shape.withCode(new Shape().u2(1, 2).u4(1).u1(16).u2(0, 0)), 23, START);
+        for (int op : new int[] {16, 17, 18, 21, 54, 132, 153, 167, 170, 184, 196}) {
+            doc.judged("op " + op + " cut off at the FILE's end", fullWithCode(bytes(op)), 23, 400 - 5);
+        }
         code("low above high", table(0, 0, 0, 1, 0).u4(0), 23, 0);
         code("the second of two", bytes(0, 2, 2), 23, 1);
     }

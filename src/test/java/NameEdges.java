@@ -34,6 +34,12 @@ final class NameEdges {
         return Shape.head(4).text(name).text(type).mark().u1(12).u2(1, 2);
     }
 
+    /** A pool of one PAIR and two TEXTs that fills the FILE; the last TEXT is the one that is asked. */
+    private static Shape fullPool(int name, int type, String last) {
+        Shape shape = Shape.head(4).u1(12).u2(name, type);
+        return shape.text("a".repeat(400 - shape.size() - 6 - last.length())).text(last);
+    }
+
     private void fieldName(String name, boolean right) {
         Shape shape = fieldOf(name, "I");
         doc.judged("FIELD NAME \"" + name + "\"", shape, right ? 0 : 15, shape.marked() + 2);
@@ -104,6 +110,11 @@ final class NameEdges {
         }
         Shape member = Shape.head(4).text("A").u1(7).u2(1).text("a").u2(0x3C00, 2, 2, 0, 0, 1, 0, 3);
         doc.rightSoFar("a MEMBER NAME before the byte <", member);
+        doc.judged("no byte at the FILE's 400th", fullPool(3, 2, ""), 9, 10);
+        doc.judged("<init at the FILE's 400th byte", fullPool(3, 2, "<init"), 9, 10);
+        doc.judged("<init> at the FILE's 400th byte, its type is wrong", fullPool(3, 2, "<init>"), 10, 10);
+        Shape empty = Shape.head(4).text("A").u1(7).u2(1).text("").u2(0x2800, 2, 2, 0, 0, 1, 0).mark().u2(3);
+        doc.judged("no MEMBER NAME before the byte (", empty, 15, empty.marked());
     }
 
     private void classNames() {
@@ -156,6 +167,10 @@ final class NameEdges {
             "([" + many + "I)V", "()[" + many + "I"}) {
             methodType(type, false);
         }
+        for (String type : new String[] {"", "(", "([", "(I", "(L", "(La", "(La;", "()", "()[", "()L", "()La"}) {
+            doc.judged("\"" + type + "\" at the FILE's 400th byte", fullPool(2, 3, type), 10, 10);
+        }
+        doc.rightSoFar("\"()V\" at the FILE's 400th byte", fullPool(2, 3, "()V"));
         doc.judged("() before the byte V", Shape.head(4).u1(12).u2(2, 3).text("a").text("()").u2(0x5600), 10, 10);
     }
 }

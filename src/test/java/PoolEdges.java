@@ -105,6 +105,12 @@ final class PoolEdges {
             doc.judged("the first " + left + " bytes of a right class", Shape.whole().without(length - left), 1, left);
         }
         doc.right("all its bytes", Shape.whole());
+        // Bytes that were cut are not there, though the object has held them.
+        ClassShape x = Shape.whole().load();
+        for (int left = length - 1; left >= 0; left--) {
+            x.cut(left, 1);
+            doc.due("cut(" + left + ", 1): judge()", x.judge(), 1);
+        }
         Shape full = Shape.toMethods().u2(0, 1, Shape.A);
         int rest = 400 - full.size() - 4;
         doc.judged("the 401st byte", full.u4(rest + 1).u1(new int[rest]), 1, 400);
