@@ -13,8 +13,6 @@ final class Document {
     static final int NOT_THERE = -1;
 
     private static final Path PATH = Path.of("..", "shared", "DOC.md");
-    // The face has a test of its own, and what is not promised has nothing to be tested.
-    private static final List<String> WITHOUT_SENTENCES = List.of("The public face", "Not promised");
 
     private static final class Section {
         final StringBuilder words = new StringBuilder();
@@ -47,7 +45,7 @@ final class Document {
                 section = new Section();
                 sections.put(line.substring(3).replaceFirst(":.*", ""), section);
             } else if (!line.isEmpty() && !line.startsWith("```")) {
-                section.add(line.replaceFirst("^`[^`]*`: ", ""), i + 1);
+                section.add(line, i + 1);
             }
         }
     }
@@ -67,9 +65,7 @@ final class Document {
     List<String> unquoted() {
         List<String> rest = new ArrayList<>();
         for (Map.Entry<String, Section> entry : sections.entrySet()) {
-            if (!WITHOUT_SENTENCES.contains(entry.getKey())) {
-                addUnquoted(entry.getKey(), entry.getValue(), rest);
-            }
+            addUnquoted(entry.getKey(), entry.getValue(), rest);
         }
         return rest;
     }

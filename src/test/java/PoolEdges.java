@@ -173,7 +173,9 @@ final class PoolEdges {
     }
 
     private void text() {
-        doc.plain(TERMS, "U1 tag;");
+        doc.says(TERMS, "U1 tag;");
+        doc.judged("a tag of two bytes", Shape.head(2).u2(7), 5, 10);
+        doc.rightSoFar("a tag of one byte", Shape.head(2).u1(7));
         doc.says(TERMS, "1 TEXT: U2 length, so many bytes;");
         doc.judged("length 0, and the next tag", Shape.head(3).text("").u1(0), 5, 13);
         doc.judged("length 1, and the next tag", Shape.head(3).text("a").u1(0), 5, 14);

@@ -1,6 +1,3 @@
-import java.util.ArrayList;
-import java.util.List;
-
 /** The promises 1 to 14, sentence by sentence, with the edges that each names. */
 final class PromiseEdges {
     private static final int REFUSED = ClassShape.REFUSED;
@@ -32,12 +29,9 @@ final class PromiseEdges {
         at();
         found();
         count();
-        refusedCalls();
     }
 
     private void lastCall() {
-        doc.plain("What it is", "Bytes of a compiled class that are put together freely, read and judged by the rules of the "
-            + "format (pool, names, descriptors, flags, members, code), and cut down to the least that breaks the same rule.");
         doc.says("What it is",
             "An object is used for at most 512 calls after it has been made; what later calls answer is free.");
         ClassShape x = new ClassShape();
@@ -333,6 +327,12 @@ final class PromiseEdges {
         doc.due("count(1)", x.count(1), 28);
         doc.due("count(2)", x.count(2), 30);
         doc.due("judge() changes no byte: count(0)", x.count(0), length);
+        x.put(1, 0);
+        x.shrink();
+        x.clear();
+        for (int r = 0; r <= 28; r++) {
+            doc.due("found(" + r + ") after shrink() and clear()", x.found(r), r == 0 ? 2 : 1);
+        }
     }
 
     private void place() {
@@ -445,82 +445,6 @@ final class PromiseEdges {
         doc.says("Promise 14", "Else REFUSED.");
         for (int what : new int[] {-1, 3, 4, 256, LEAST, MOST}) {
             doc.due("count(" + what + ")", x.count(what), REFUSED);
-        }
-    }
-
-    /** A FILE of so many bytes that has been judged; few calls, so that all of it can be asked for. */
-    private static ClassShape judgedOf(int length) {
-        ClassShape x = new ClassShape();
-        x.put(4, Shape.MAGIC);
-        x.put(4, 52);
-        x.judge();
-        x.put(4, 0x00030100);
-        x.put(4, 0x01410703);
-        for (int half = 16; half < 256; half *= 2) {
-            x.twice(0, half);
-        }
-        x.twice(0, length - 256);
-        x.judge();
-        return x;
-    }
-
-    /** All that can be asked of an object. */
-    private static List<Integer> told(ClassShape x) {
-        List<Integer> told = new ArrayList<>();
-        for (int i = 0; i <= 400; i++) {
-            told.add(x.at(i));
-        }
-        for (int r = 0; r <= 28; r++) {
-            told.add(x.found(r));
-        }
-        for (int what = 0; what <= 6; what++) {
-            told.add(x.read(what));
-        }
-        for (int what = 0; what <= 2; what++) {
-            told.add(x.count(what));
-        }
-        told.add(x.place());
-        return told;
-    }
-
-    private static int call(ClassShape x, int which) {
-        return switch (which) {
-            case 0 -> x.put(3, 1);
-            case 1 -> x.text(-1, 0x61);
-            case 2 -> x.text(9, 0x61);
-            case 3 -> x.patch(x.count(0), 1);
-            case 4 -> x.patch(-1, 1);
-            case 5 -> x.cut(0, x.count(0) + 1);
-            case 6 -> x.cut(0, 0);
-            case 7 -> x.cut(-1, 1);
-            case 8 -> x.twice(0, 0);
-            case 9 -> x.twice(x.count(0), 1);
-            case 10 -> x.at(x.count(0));
-            case 11 -> x.read(7);
-            case 12 -> x.found(29);
-            case 13 -> x.count(3);
-            case 14 -> x.put(4, 1);
-            case 15 -> x.text(0, 1);
-            case 16 -> x.text(8, -1);
-            default -> x.twice(0, x.count(0));
-        };
-    }
-
-    private void refusedCalls() {
-        doc.says("Terms", "A refused call changes nothing.");
-        for (int length : new int[] {398, 400}) {
-            List<Integer> before = told(judgedOf(length));
-            for (int which = 0; which <= 17; which++) {
-                ClassShape x = judgedOf(length);
-                doc.due("call " + which + " at " + length, call(x, which), which < 14 ? REFUSED : FULL);
-                doc.due("call " + which + " at " + length + " changes nothing", told(x).equals(before));
-            }
-        }
-        List<Integer> right = told(Shape.whole().load());
-        for (int which = 0; which < 14; which++) {
-            ClassShape x = Shape.whole().load();
-            doc.due("call " + which + " before a judging", call(x, which), REFUSED);
-            doc.due("call " + which + " before a judging changes nothing", told(x).equals(right));
         }
     }
 }

@@ -11,7 +11,7 @@ final class Sentences extends Checks {
         isOpen = true;
     }
 
-    /** These words name no boundary case; those that they go with are quoted elsewhere. */
+    /** These words leave something free, so no check can stand beside them. */
     void plain(String heading, String words) {
         close();
         quote(heading, words);
