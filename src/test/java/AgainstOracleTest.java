@@ -10,7 +10,7 @@ public final class AgainstOracleTest {
     private static final int MOST_LOOKS = 300;
     private static final String[] TEXTS = {"A", "B", "m", "n", "x/y", "<init>", "<clinit>", "()V", "(I)V", "(ILA;[J)I",
         "([[B)LA/B;", "Code", "Code", "ConstantValue", "I", "J", "S", "Z", "[I", "[[[LA;", "LA/B;", "D",
-        "\u00c3\u00a9", "\u00e1\u0080\u00bf", "(La)b;)V"};
+        "\u00c3\u00a9", "\u00e1\u0080\u00bf", "(La)b;)V", "(LA;LB;)V"};
     private static final String[] ODD_TEXTS = {"", "a/", "/a", "a//b", "a.b", "<x>", "L;", "LA", "[", "V", "(V)V", "()",
         "()VV", "(I", "\u00c3", "\u0080", "\u00e1\u0080", "II", "a;b", "[V", "L/a;", "()[V", "(L;)V", "\0"};
 
@@ -155,7 +155,7 @@ public final class AgainstOracleTest {
             add(1, odd);
             entries.text(odd);
         }
-        for (int kind : new int[] {7, 7, 3, 5, 8, 12, 10, 7}) {
+        for (int kind : new int[] {7, 7, 3, 5, 8, 12, 10, 7, 5}) {
             if (chance(kind == 7 || kind == 12 ? 95 : 60)) {
                 entry(entries, kind);
             }
@@ -225,7 +225,7 @@ public final class AgainstOracleTest {
     }
 
     private int methodType() {
-        return pickText("()V", "(I)V", "(ILA;[J)I", "([[B)LA/B;", "(La)b;)V");
+        return pickText("()V", "(I)V", "(ILA;[J)I", "([[B)LA/B;", "(La)b;)V", "(LA;LB;)V");
     }
 
     private void field(Shape shape) {

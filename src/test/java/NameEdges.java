@@ -158,12 +158,12 @@ final class NameEdges {
         doc.says(TERMS, "A METHOD TYPE: (, any number of FIELD TYPEs, ), then a FIELD TYPE or V, and nothing else.");
         String many = "[".repeat(255);
         for (String type : new String[] {"()V", "()I", "(I)V", "(BCDFIJSZ)Z", "(La;)V", "(La/b;[[I)[[La;", "(La)b;)V",
-            "(L(;)LV;", "()[J", "([La;[[B)D", "(" + "I".repeat(256) + ")V", "(" + many + "I)V", "()" + many + "I"}) {
+            "(L(;)LV;", "(La;Lb;)V", "(La;Lb/c;[Ld;Le;)Lf;", "(IJ[ILa;)V", "()[J", "([La;[[B)D", "(" + "I".repeat(256) + ")V", "(" + many + "I)V", "()" + many + "I"}) {
             methodType(type, true);
         }
         for (String type : new String[] {"", "V", "I", "(", ")", "()", "(V", "()VV", "()IV", "()VI", "()II", "(V)V", "()[V", "(I",
             "(I)", "(L;)V", "(La)V", "(La;)", "(La", "a()V", "()La", "()L;", "()La/;", "(La//b;)V", "([)V", "()[", "(X)V",
-            "()X", "()V ", "(()V", "())V", "(La.b;)V", "(L[I;)V", ")V", "I)V", "))V", "[)V", "(I)V(",
+            "()X", "()V ", "(()V", "())V", "(La.b;)V", "(L[I;)V", "(La;Lb)V", "(La;;)V", "(La;L;)V", ")V", "I)V", "))V", "[)V", "(I)V(",
             "([" + many + "I)V", "()[" + many + "I"}) {
             methodType(type, false);
         }
