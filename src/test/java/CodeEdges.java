@@ -192,6 +192,21 @@ final class CodeEdges {
             doc.judged("196 54" + what, withLocals(c[0], bytes(196, 54).u2(c[1]).u1(177)), rule, START);
             doc.judged("196 132" + what, withLocals(c[0], bytes(196, 132).u2(c[1], 9).u1(177)), rule, START);
         }
+        for (int before = 55; before <= 63; before++) {
+            Shape shape = bytes(new int[before]).u1(196, 21, 0, 1);
+            boolean fits = before <= 60;
+            Shape cut = fits ? shape.u1(new int[60 - before]) : shape.without(before - 60);
+            // Where 196 is all there, what is wrong comes later: the last instruction, it or a nop, may not be the last.
+            int last = before == 60 ? 60 : 63;
+            doc.judged("196 at " + before + " of 64", early(cut), fits ? 26 : 23, 60 + (fits ? last : before));
+        }
+    }
+
+    /** A class whose CODE begins as early as it can: its instructions are at 60, below the last places of 64 bytes. */
+    private static Shape early(Shape instructions) {
+        Shape code = Shape.code(instructions);
+        return Shape.head(4).text("Code").u1(7).u2(1).text("()V").u2(0, 2, 2, 0, 0, 1, 0, 1, 3, 1, 1).u4(code.size())
+            .all(code).u2(0);
     }
 
     private void jumps() {
